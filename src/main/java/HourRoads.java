@@ -729,32 +729,21 @@ public final class HourRoads {
         }
 
         int countedIn(int seasonNow) {
-            int bits = 0;
-            for (int k = 0; k < size; k++) {
-                int season = fact(k, SEASON);
-                if (season == 0 || season == seasonNow) {
-                    bits |= 1 << k;
-                }
-            }
-            return bits & ~doubted;
+            return (having(SEASON, 0) | having(SEASON, seasonNow)) & ~doubted;
         }
 
         int toldForWinterAlone() {
-            int bits = 0;
-            for (int k = 0; k < size; k++) {
-                if (fact(k, SEASON) == WINTER) {
-                    bits |= 1 << k;
-                }
-            }
-            return bits & ~doubted;
+            return having(SEASON, WINTER) & ~doubted;
         }
 
         int writtenBy(int writer) {
+            return having(WRITER, writer);
+        }
+
+        private int having(int what, int value) {
             int bits = 0;
             for (int k = 0; k < size; k++) {
-                if (fact(k, WRITER) == writer) {
-                    bits |= 1 << k;
-                }
+                bits |= fact(k, what) == value ? 1 << k : 0;
             }
             return bits;
         }

@@ -15,6 +15,7 @@ public final class LandsTest {
         rows();
         ask();
         heaps();
+        fullBook();
         Check.end("LandsTest");
     }
 
@@ -150,6 +151,33 @@ public final class LandsTest {
         HourRoads high = Check.told(8, "g f 10;h f 12;a b 3;");
         Check.due("15: 8 times the less", high.ask(0), 8 * 6 + 7);
         Check.due("15: less SHORT", high.ask(1), 22 - 2);
+    }
+
+    /** All 24 HOURS, the last of which decides. */
+    private static void fullBook() {
+        String some = "a b1to9;b c1to9;".repeat(11) + "a b1to9;";
+        HourRoads x = Check.told(4, some + "a d5;");
+        Check.due("5: as many as there may be", x.count(1), 24);
+        Check.due("11: by the last", x.longest(2, 3), 23);
+        Check.due("12: by the last", x.shortest(1, 3), 1);
+        Check.due("13: of the last", x.must(0, 3), 0);
+        Check.due("15: of all", x.ask(0), 8 * 2 + 3);
+        Check.due("15: not those of the last", x.ask(1), 22);
+        Check.due("21: of one writer", x.part(0, 1, 4), 0);
+        Check.due("25: no winter", x.shut(0), 0);
+        Check.due("28: none is within", x.judge(0), 24);
+        Check.due("28: the first", x.judge(2), 0);
+        Check.due("28: no way, no miss", x.judge(1), 0);
+        Check.due("29: three roads", x.draw(), 3);
+        Check.due("28: all are within", x.judge(2), NONE);
+        Check.due("8: the last is doubted", x.doubt(23, true), 0);
+        Check.due("16: the fourth town is alone", x.heaps(), 2);
+        Check.due("5: told anew", Check.tell(x, some + "c a99;"), 24);
+        Check.due("14: the last bars", x.bars(0), 23);
+        Check.due("14: by a row of two", x.bars(1), 2);
+        Check.due("14: from the lesser town", x.bars(10) * 100 + x.bars(11), 1);
+        Check.due("19: too many", x.wrong(0), STATE);
+        Check.due("20: one writer", x.writers(1), 1);
     }
 
     private static void heaps() {

@@ -183,6 +183,8 @@ public final class RoadsTest {
         Check.due("23: e after d", row.corner(0, 1, 2, 14), 11);
         Check.due("23: roads of b", row.corner(0, 1, 2, 1), 2);
         Check.due("23: two roads less three ends", row.corner(0, 1, 2, 0), -1);
+        HourRoads across = Check.told(4, "a b 4;a c 4;b c 2;b d 1;c d 1;");
+        Check.due("23: the first of the three is the farthest", across.corner(0, 1, 2, 13), 2);
         HourRoads later = Check.told(5, "a b 4;a c 4;b c 4;a d 2;b d 2;c d 2;a e 2;b e 2;c e 2;d e 4;");
         Check.due("23: one that came ahead", later.corner(0, 1, 2, 13), 0);
         Check.due("23: pushes the next", later.corner(0, 1, 2, 14), 4);
@@ -247,6 +249,8 @@ public final class RoadsTest {
         Check.due("25: twelve", many.shut(0), 1);
         HourRoads two = Check.told(4, "a b 1;b d 1;a c 1;c d 1;a d 2;a d 3 to 9 winter;");
         Check.due("25: of several ways all must go", two.shut(0), NONE);
+        Check.tell(two, "a c 6 winter;a b 3;b c 3;a c 4;");
+        Check.due("25: the first hour is winter's", two.shut(1), 2);
         Check.tell(two, "a b 1;b d 1;a c 1;c d 2;a d 3 winter;");
         Check.due("25: the least of two", two.shut(1), 1);
     }
