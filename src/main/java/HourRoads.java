@@ -153,7 +153,7 @@ public final class HourRoads {
     }
 
     public int bars(int what) {
-        if (what != 0 && what != 1 && what < FROM_TEN) {
+        if (!isBarsQuestion(what)) {
             return BAD;
         }
         if (land.canBe()) {
@@ -437,6 +437,11 @@ public final class HourRoads {
 
     private boolean areThreeInOrder(int a, int b, int c) {
         return isTown(a) && isTown(b) && isTown(c) && a < b && b < c;
+    }
+
+    /** A ROW is of HOURS, and more than MAX_HOURS are never told: beyond, no ROW has a place. */
+    private static boolean isBarsQuestion(int what) {
+        return what == 0 || what == 1 || what >= FROM_TEN && what < FROM_TEN + MAX_HOURS;
     }
 
     private boolean isCornerQuestion(int what) {

@@ -89,10 +89,7 @@ public final class LandsTest {
         Check.due("14: its row", x.bars(1), 1);
         Check.due("14: the hour of it", x.bars(10), 1);
         Check.due("14: no second one", x.bars(11), NONE);
-        Check.due("14: far beyond", x.bars(Integer.MAX_VALUE), NONE);
-        for (int what : new int[] {-1, 2, 9, Integer.MIN_VALUE}) {
-            Check.due("14: bars(" + what + ")", x.bars(what), BAD);
-        }
+        barsBeyond(x);
         x.doubt(0, true);
         Check.due("14: then the next", x.bars(0), 2);
         Check.due("14: by its own row", x.bars(10), 3);
@@ -102,7 +99,19 @@ public final class LandsTest {
         Check.due("14: it can be", x.bars(0), NONE);
         Check.due("14: no row", x.bars(1), NONE);
         Check.due("14: nor an hour of it", x.bars(10), NONE);
-        Check.due("14: BAD ahead of NONE", x.bars(2), BAD);
+        barsBeyond(x);
+        barsBeyond(new HourRoads());
+        barsBeyond(Check.told(8, "a b 1;b c 1;c d 1;d e 1;e f 1;f g 1;g h 1;a h 9;"));
+    }
+
+    /** BAD stands ahead of NONE, whether it can be or not. */
+    private static void barsBeyond(HourRoads x) {
+        for (int what : new int[] {Integer.MIN_VALUE, -1, 2, 9, 34, 35, 936239588, Integer.MAX_VALUE}) {
+            Check.due("14: bars(" + what + ")", x.bars(what), BAD);
+        }
+        for (int what = 17; what < 34; what++) {
+            Check.due("14: bars(" + what + "), an HOUR that the ROW has not", x.bars(what), NONE);
+        }
     }
 
     private static void row(int n, String text, int... hours) {

@@ -62,7 +62,7 @@ public final class ThemesTest {
         begin(n, calls.textOfQuarrels(n, n + calls.below(13 - n + 2)));
         for (int turn = 0; turn < 3; turn++) {
             due("can()", x.can(), m.can());
-            for (int what = 0; what < 18; what++) {
+            for (int what = 0; what < 36; what++) {
                 due("bars(" + what + ")", x.bars(what), m.bars(what));
             }
             met += m.bars(1) >= 3 ? 1 : 0;

@@ -214,7 +214,7 @@ final class Calls {
             case 10: return told("longest(" + a + ", " + b + ")", x.longest(a, b), m.longest(a, b));
             case 11: return told("shortest(" + a + ", " + b + ")", x.shortest(a, b), m.shortest(a, b));
             case 12: return told("must(" + a + ", " + b + ")", x.must(a, b), m.must(a, b));
-            case 13: return both("bars", below(2) == 0 ? number(3) : 10 + number(8), x::bars, m::bars);
+            case 13: return both("bars", below(2) == 0 ? number(3) : 10 + number(below(4) == 0 ? 26 : 8), x::bars, m::bars);
             case 14: return both("ask", number(3), x::ask, m::ask);
             case 15: return told("heaps()", x.heaps(), m.heaps());
             case 16: return told("roads()", x.roads(), m.roads());

@@ -357,7 +357,8 @@ final class Model {
     }
 
     int bars(int what) {
-        if (what != 0 && what != 1 && what < 10) {
+        boolean isPlace = what >= 10 && what <= 33;
+        if (what != 0 && what != 1 && !isPlace) {
             return BAD;
         }
         int k = barring(counting(season));
