@@ -161,6 +161,8 @@ public final class EdgesLandsTest {
         must("h g 5;h f 5;f g 5;h e 2;g e 3;", 6, 7, 0);
         must("h g 5;h f 5;f g 5;h e 3;g e 3;", 6, 7, 1);
         must("a b 9;c d 1;", 0, 1, 1);
+        must("a b 4;a c 4;b c 8;", 1, 2, 0);
+        must("a b 4;a c 5;b c 8;", 1, 2, 1);
     }
 
     /** Where two refusals fit, the first one told: BAD, STATE, NONE. */
@@ -227,6 +229,9 @@ public final class EdgesLandsTest {
         row("a b 1;b c 1;c d 1;a e 1;e d 3;a d 4;", 5, 0, 1, 2);
         row("a b 1 winter;a b 2;b c 2;a c 5;", 3, 1, 2);
         row("a b 7;c d 7;c d 8;a b 8;", 2, 1);
+        row("a b 1;a c 1;b c 3;", 2, 0, 1);
+        row("d e 1;a c 1;b a 1;b c 3;", 3, 2, 1);
+        row("d e 1;g a 1;a h 1;h g 3;", 3, 1, 2);
     }
 
     private static void ask(int n, String text, int pair, int width) {

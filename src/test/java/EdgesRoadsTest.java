@@ -26,6 +26,7 @@ public final class EdgesRoadsTest {
         shut();
         shutSearched();
         shutRefused();
+        toldBefore();
         Check.end("EdgesRoadsTest");
     }
 
@@ -283,6 +284,9 @@ public final class EdgesRoadsTest {
 
     private static final String FOUR = "a b 4;a c 4;a d 4;b c 4;b d 4;c d 4;";
 
+    /** Four TOWNS of which two are nearer than over the CORNER: five ROADS less four ends. */
+    private static final String LESS = "a b 4;a c 4;b c 4;d a 4;d b 4;d c 3;";
+
     private static void far(String text, int... far) {
         HourRoads x = Check.told(far.length, text);
         for (int t = 0; t < far.length; t++) {
@@ -308,6 +312,7 @@ public final class EdgesRoadsTest {
         far("a b 4;a c 4;b c 4;d a 3;d b 3;d c 3;", 2, 2, 2, 1);
         far("a b 4;a c 4;b c 4;a e 3;b e 3;c e 3;a d 3;b d 3;c d 3;d e 5;", 2, 2, 2, 1, 4);
         far("a b 4;a c 4;b c 4;a e 3;b e 3;c e 3;a d 3;b d 3;c d 3;d e 2;", 2, 2, 2, 1, 1);
+        far("a b 4;a c 4;b c 2;b d 1;c d 1;", 3, 1, 1, 2);
         far("h a 4;h b 4;h c 4;a b 4;a c 4;b c 4;", 2, 2, 2, NONE, NONE, NONE, NONE, 2);
         HourRoads x = Check.told(8, "f g 4;f h 4;g h 4;a f 9;");
         Check.due("23: the last three", x.corner(5, 6, 7, 1), 3);
@@ -370,6 +375,9 @@ public final class EdgesRoadsTest {
         best(2, "a b 4;", NONE, NONE);
         best(3, "a b 2;b c 2;c a 2;", NONE, NONE);
         best(8, "e f 4;e g 4;e h 4;f g 4;f h 4;g h 4;", 2, 64 * 4 + 8 * 5 + 6);
+        best(4, LESS, 1, 8 + 2);
+        best(8, LESS + "e f 4;e g 4;e h 4;f g 4;f h 4;g h 4;", 2, 64 * 4 + 8 * 5 + 6);
+        best(8, "e f 4;e g 4;f g 4;h e 4;h f 4;h g 3;" + FOUR, 2, 8 + 2);
         best(8, FOUR + "e f 4;e g 4;e h 4;f g 4;f h 4;g h 4;", 2, 8 + 2);
         best(5, "a b4;a c4;a d4;a e4;b c4;b d4;b e4;c d4;c e4;d e4;", 5, 8 + 2);
         for (int what : new int[] {MIN, -1, 2, 3, MAX}) {
@@ -412,6 +420,10 @@ public final class EdgesRoadsTest {
         shut(5, RING + "a e 9 winter;", NONE, NONE);
         shut(4, RING + "a c 9 summer;", STATE, STATE);
         shut(3, "a b 2 winter;", NONE, NONE);
+        shut(4, "a c 5 to 9 winter;" + RING, 1, 2);
+        shut(4, "b c 5 to 9 winter;a b 2;a c 3;b c 4;", 1, 4);
+        shut(5, "a b 2;a c 2;a d 2;c e 3;e d 3;a d 2 winter;c d 5 to 9 winter;", 1, 2);
+        shut(4, "a b 3 to 9 winter;" + RING + "a c 4 to 6 winter;", 0, 0);
         shut(4, "a b 1;b c 1;c d 1;d a 1;a b 3 winter;c d 3 winter;", NONE, NONE);
         String square = "a b 2;b c 2;c d 2;d a 2;a c 3;b d 3;";
         shut(4, square + "a b 5 winter;", 1, 1);
@@ -471,5 +483,38 @@ public final class EdgesRoadsTest {
         HourRoads y = many.make();
         y.doubt(12, true);
         Check.due("25: twelve are left", y.shut(0), 0);
+    }
+
+    // ---- 17 to 25
+
+    /** What was told, asked and refused before leaves no trace in the answers. */
+    private static void toldBefore() {
+        String[] texts = {pairs(24, 3), RING + "a c 7 winter;", "", LESS, RING + "a c 6 winter;", pairs(12, 2) + "g h 9;",
+            "a b 1;a b 2 by 1;a b 3 by 2;", FOUR + "a b 9 winter;", "a b 3;b c 3;a c 4 winter;", "c d 5;c d 4 by 3;",
+            "a b 1;a c 1;b c 3;", "a b 2;b c 2;c d 2;d a 2;a c 3;b d 3;a b 8 winter;",
+            RING + "c d 6 to 99 winter;"};
+        for (int i = 0; i < texts.length; i++) {
+            String latest = texts[i];
+            for (int j = 0; j < texts.length; j++) {
+                String before = texts[j];
+                Twins.alike("17 to 25: '" + latest + "' behind '" + before + "'", () -> Check.told(8, latest), () -> {
+                    HourRoads x = Check.told(8, before);
+                    askAll(x);
+                    Check.tell(x, latest);
+                    return x;
+                });
+            }
+        }
+    }
+
+    private static void askAll(HourRoads x) {
+        for (int what = 0; what < 3; what++) {
+            x.wrong(what);
+            x.writers(what);
+            x.shut(what);
+            x.best(what);
+            x.bars(what);
+            x.corner(0, 1, 2, what);
+        }
     }
 }

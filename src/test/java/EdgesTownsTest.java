@@ -29,6 +29,7 @@ public final class EdgesTownsTest {
         hour();
         doubt();
         season();
+        the512th();
         Check.end("EdgesTownsTest");
     }
 
@@ -233,21 +234,21 @@ public final class EdgesTownsTest {
     private static final String[] BEFORE = {"", "a ", "a b ", "a b 5 ", "a b 5 to ", "a b 5 to 6 ", "a b 5 by ",
         "a b 5 by 1 ", "a b 5 to 6 by 1 ", "a b 5 summer ", "a b 5 to 6 by 1 winter ", "a b 5;"};
     private static final String[] TOKENS = {"a", "c", "e", "z", "to", "by", "summer", "winter", "xy", "summe", "5",
-        "0", "6", "9999", "0005", "10000", "00005", ";"};
+        "0", "6", "9999", "0005", "10000", "00005", ";", "tos", "bys", "summers", "winterwinter", "t", "aa"};
     /** For each of BEFORE the FAULT of each of TOKENS; a dot: it is taken. */
     private static final String[] FAULTS = {
-        "..4422222222222112",
-        "4.4422222222222112",
-        "2222222222.3...112",
-        "2222....222222211.",
-        "2222222222.3...112",
-        "22222...222222211.",
-        "2222222222..33.112",
-        "222222..222222211.",
-        "222222..222222211.",
-        "22222222222222211.",
-        "22222222222222211.",
-        "..4422222222222112"};
+        "..4422222222222112222242",
+        "4.4422222222222112222242",
+        "2222222222.3...112222222",
+        "2222....222222211.222222",
+        "2222222222.3...112222222",
+        "22222...222222211.222222",
+        "2222222222..33.112222222",
+        "222222..222222211.222222",
+        "222222..222222211.222222",
+        "22222222222222211.222222",
+        "22222222222222211.222222",
+        "..4422222222222112222242"};
 
     /**
      * Behind each TOKEN stands a byte that is none: its FAULT is met if the TOKEN is taken, and not
@@ -513,5 +514,16 @@ public final class EdgesTownsTest {
             y.season(1);
             return y;
         });
+    }
+
+    /** An object is good for 512 calls: here the last ones answer as the first ones did. */
+    private static void the512th() {
+        HourRoads x = new HourRoads();
+        for (int i = 0; i < 128; i++) {
+            Check.due("3: call " + (4 * i + 1), x.feed(0x6120622037203b20L), 8);
+            Check.due("5: call " + (4 * i + 2), x.hours(), 1);
+            Check.due("8: call " + (4 * i + 3), x.doubt(0, true), 0);
+            Check.due("11: call " + (4 * i + 4), x.longest(0, 1), NONE);
+        }
     }
 }
