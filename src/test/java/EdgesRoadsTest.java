@@ -325,6 +325,10 @@ public final class EdgesRoadsTest {
         HourRoads less = Check.told(4, "a b 4;a c 4;b c 4;d a 3;d b 3;d c 4;");
         Check.due("23: d is too far for two", less.corner(0, 1, 2, 1), 4);
         Check.due("23: four less four", less.corner(0, 1, 2, 0), 0);
+        // ac, cg and df have five ends: a GAIN of the number of STATE, which it is not
+        HourRoads apart = Check.told(7, "g a2;e f5;e g6;b d5;a c6;e f1;g c5;f g2;c e3;a d4;c f5;f d5;b c2;");
+        Check.due("23: three ROADS apart", apart.corner(0, 1, 5, 1), 3);
+        Check.due("23: three less five", apart.corner(0, 1, 5, 0), -2);
     }
 
     private static void cornerRefused() {
